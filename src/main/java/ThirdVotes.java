@@ -1,3 +1,5 @@
+import java.util.Arrays;
+
 /**
  * Words on one wire, told by votes at the thirds of each bit.
  *
@@ -19,7 +21,7 @@ public final class ThirdVotes {
     private static final int GREATEST_WORD = 255;
     private static final int GREATEST_STRETCH = 500;
     private static final int GREATEST_DISTURBANCE = 40;
-    private static final int LEAST_FAULT_ANSWER = -100;
+    private static final int FAULT_AT_0 = -100;
 
     private static final int SENDER_LENGTH = 0;
     private static final int RECEIVER_LENGTH = 1;
@@ -63,7 +65,7 @@ public final class ThirdVotes {
         if (!state.hasRoom(state.ticksOfWord())) {
             return FULL;
         }
-        history.record(state);
+        history.remember(state);
         state.addWord(word);
         return state.end();
     }
@@ -80,13 +82,13 @@ public final class ThirdVotes {
         if (!isDisturbance(ticks) || at < 0 || at > state.end() - ticks) {
             return OUT_OF_RANGE;
         }
-        history.record(state);
+        history.remember(state);
         return state.flip(at, ticks);
     }
 
     public int clear() {
         int endBefore = state.end();
-        history.record(state);
+        history.remember(state);
         state.clearWire();
         return endBefore;
     }
@@ -102,7 +104,7 @@ public final class ThirdVotes {
         if (value == valueBefore) {
             return NONE;
         }
-        history.record(state);
+        history.remember(state);
         state.change(setting, value);
         return valueBefore;
     }
@@ -112,7 +114,7 @@ public final class ThirdVotes {
         if (length == NONE || length == state.setting(RECEIVER_LENGTH)) {
             return NONE;
         }
-        history.record(state);
+        history.remember(state);
         state.change(RECEIVER_LENGTH, length);
         return length;
     }
@@ -132,13 +134,13 @@ public final class ThirdVotes {
     public int perform() {
         int fault = text.fault();
         if (fault != NONE) {
-            return LEAST_FAULT_ANSWER - fault;
+            return FAULT_AT_0 - fault;
         }
         trial.copyFrom(state);
         if (!text.sendTo(trial)) {
             return FULL;
         }
-        history.record(state);
+        history.remember(state);
         state.copyFrom(trial);
         return state.end();
     }
@@ -158,7 +160,7 @@ public final class ThirdVotes {
         if (!history.hasSnapshot()) {
             return NONE;
         }
-        history.record(state);
+        history.remember(state);
         history.copySnapshotTo(state);
         return state.end();
     }
@@ -192,6 +194,7 @@ public final class ThirdVotes {
         if (what < SETTINGS) {
             return state.setting(what);
         }
+        // The numbers are those of the document.
         switch (what) {
             case 5: return state.end();
             case 6: return state.wordCount();
@@ -280,7 +283,7 @@ public final class ThirdVotes {
         if (!state.hasRoom(ticks)) {
             return FULL;
         }
-        history.record(state);
+        history.remember(state);
         state.addStretch(level, ticks);
         return state.end();
     }
@@ -312,11 +315,13 @@ public final class ThirdVotes {
         /** Levels are held as bits, so that the seven states of an object stay small. */
         private static final int TICKS_PER_ROW = 64;
         private static final int ROWS = GREATEST_END / TICKS_PER_ROW + 1;
+        private static final long ALL_HIGH = -1L;
         /** No word takes less than 10 bits of 4 ticks. */
         private static final int MOST_WORDS = GREATEST_END / 40;
         private static final int RANK_OF_FIFTH_FALL = 4;
         private static final int BITS_TO_FIFTH_FALL = 8;
 
+        /** High from the end on, so that falls can be found by whole rows. */
         private final long[] levels;
         private final int[] words;
         private final int[] settings;
@@ -327,6 +332,7 @@ public final class ThirdVotes {
             levels = new long[ROWS];
             words = new int[MOST_WORDS];
             settings = new int[SETTINGS];
+            Arrays.fill(levels, ALL_HIGH);
             System.arraycopy(FIRST_VALUES, 0, settings, 0, SETTINGS);
         }
 
@@ -361,6 +367,7 @@ public final class ThirdVotes {
         }
 
         void clearWire() {
+            Arrays.fill(levels, ALL_HIGH);
             end = 0;
             wordCount = 0;
         }
@@ -383,9 +390,9 @@ public final class ThirdVotes {
             int length = settings[SENDER_LENGTH];
             int bitsInAll = bitsOfWord();
             for (int bit = 0; bit < bitsInAll; bit++) {
-                int from = end + bit * length / PARTS;
-                int behind = end + (bit + 1) * length / PARTS;
-                putLevel(from, behind, bits >> bit & 1);
+                if ((bits >> bit & 1) == LOW) {
+                    putLow(end + bit * length / PARTS, end + (bit + 1) * length / PARTS);
+                }
             }
             words[wordCount] = word;
             wordCount++;
@@ -398,7 +405,9 @@ public final class ThirdVotes {
             if (!hasRoom(ticks)) {
                 return false;
             }
-            putLevel(end, end + ticks, level);
+            if (level == LOW) {
+                putLow(end, end + ticks);
+            }
             end += ticks;
             return true;
         }
@@ -420,39 +429,38 @@ public final class ThirdVotes {
             return (int) (levels[tick / TICKS_PER_ROW] >>> tick % TICKS_PER_ROW & 1L);
         }
 
-        boolean isFall(int tick) {
-            return levelAt(tick) == LOW && levelAt(tick - 1) == HIGH;
+        /** The first fall from a tick on, or the end. */
+        int nextFall(int from) {
+            for (int tick = Math.max(from, 0); tick < end; tick = behindRow(tick)) {
+                long falls = fallsIn(tick / TICKS_PER_ROW) >>> tick % TICKS_PER_ROW;
+                if (falls != 0) {
+                    long lowestFall = falls & -falls;
+                    return tick + Long.bitCount(lowestFall - 1);
+                }
+            }
+            return end;
         }
 
         int fallOfRank(int rank) {
-            int fallsAhead = 0;
-            for (int tick = 0; tick < end; tick++) {
-                if (isFall(tick)) {
-                    if (fallsAhead == rank) {
-                        return tick;
-                    }
-                    fallsAhead++;
-                }
+            int fall = nextFall(0);
+            for (int ahead = 0; ahead < rank && fall < end; ahead++) {
+                fall = nextFall(fall + 1);
             }
-            return NONE;
+            return fall < end ? fall : NONE;
         }
 
         int countFalls() {
             int falls = 0;
-            for (int tick = 0; tick < end; tick++) {
-                if (isFall(tick)) {
-                    falls++;
-                }
+            for (int row = 0; row < ROWS; row++) {
+                falls += Long.bitCount(fallsIn(row));
             }
             return falls;
         }
 
         int countLowTicks() {
             int lowTicks = 0;
-            for (int tick = 0; tick < end; tick++) {
-                if (levelAt(tick) == LOW) {
-                    lowTicks++;
-                }
+            for (int row = 0; row < ROWS; row++) {
+                lowTicks += Long.bitCount(~levels[row]);
             }
             return lowTicks;
         }
@@ -486,15 +494,23 @@ public final class ThirdVotes {
             return bits | 3 << stopBit;
         }
 
-        private void putLevel(int from, int behind, int level) {
+        private void putLow(int from, int behind) {
             for (int tick = Math.max(from, 0); tick < behind && tick < GREATEST_END; tick++) {
-                long bit = 1L << tick % TICKS_PER_ROW;
-                if (level == HIGH) {
-                    levels[tick / TICKS_PER_ROW] |= bit;
-                } else {
-                    levels[tick / TICKS_PER_ROW] &= ~bit;
-                }
+                levels[tick / TICKS_PER_ROW] &= ~(1L << tick % TICKS_PER_ROW);
             }
+        }
+
+        private static int behindRow(int tick) {
+            return (tick / TICKS_PER_ROW + 1) * TICKS_PER_ROW;
+        }
+
+        /** The falls in a row, as bits that are 1. */
+        private long fallsIn(int row) {
+            if (row < 0 || row >= ROWS) {
+                return 0;
+            }
+            long levelAhead = row == 0 ? HIGH : levels[row - 1] >>> TICKS_PER_ROW - 1;
+            return (levels[row] << 1 | levelAhead) & ~levels[row];
         }
     }
 
@@ -529,10 +545,10 @@ public final class ThirdVotes {
         void receive(State state, int length) {
             count = 0;
             falseStarts = 0;
-            for (int tick = 0; tick < state.end(); tick++) {
-                if (state.isFall(tick)) {
-                    tick = Math.max(tick, tellFrom(state, tick, length));
-                }
+            int begin = state.nextFall(0);
+            while (begin < state.end()) {
+                int waitsFrom = tellFrom(state, begin, length);
+                begin = state.nextFall(Math.max(waitsFrom, begin + 1));
             }
         }
 
@@ -595,12 +611,12 @@ public final class ThirdVotes {
             return note(rank, KIND) == GOOD && note(rank, WORD) == word;
         }
 
-        /** Tells what begins at a fall, and answers the tick behind which it waits anew. */
+        /** Tells what begins at a fall, and answers from which tick on the next fall counts. */
         private int tellFrom(State state, int begin, int length) {
             doubtfulBits = 0;
             if (tellBit(state, begin, length) == HIGH) {
                 falseStarts++;
-                return thirdLook(begin, length);
+                return thirdLook(begin, length) + 1;
             }
             int stopBit = state.setting(PARITY) == 0 ? PARITY_BIT : PARITY_BIT + 1;
             int bits = 0;
@@ -610,7 +626,9 @@ public final class ThirdVotes {
             int kind = kindOf(bits, stopBit, state.setting(PARITY));
             int lastLook = thirdLook(begin + stopBit * length, length);
             add(kind, wordIn(bits), begin, lastLook);
-            return kind == BREAK ? lastLowTick(state, lastLook) : lastLook;
+            // Waiting for the level 1 first leaves out a fall right behind the last look, and no other:
+            // each later one has that level ahead of it.
+            return kind == BREAK ? lastLook + 2 : lastLook + 1;
         }
 
         private int tellBit(State state, int from, int length) {
@@ -656,15 +674,6 @@ public final class ThirdVotes {
                 notes[LAST_LOOK][count] = lastLook;
                 count++;
             }
-        }
-
-        /** The last one of the low ticks right behind a tick, or that tick without any. */
-        private static int lastLowTick(State state, int behind) {
-            int last = behind;
-            for (int tick = behind + 1; tick < state.end() && state.levelAt(tick) == LOW; tick++) {
-                last = tick;
-            }
-            return last;
         }
     }
 
@@ -744,11 +753,10 @@ public final class ThirdVotes {
                 if (character == ',') {
                     index++;
                 } else if (character == ')') {
-                    depth--;
-                    if (isRepeatDue(depth)) {
-                        index = repeatFrom[depth];
-                        depth++;
+                    if (isRepeatDue(depth - 1)) {
+                        index = repeatFrom[depth - 1];
                     } else {
+                        depth--;
                         index++;
                     }
                 } else if (characterAt(index + 1) == '(') {
@@ -890,7 +898,7 @@ public final class ThirdVotes {
             return hasSnapshot;
         }
 
-        void record(State state) {
+        void remember(State state) {
             if (size == MOST_STATES) {
                 dropOldest();
             }

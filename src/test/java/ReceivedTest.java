@@ -9,6 +9,7 @@ public final class ReceivedTest {
         sent();
         receivedWords();
         receivedWithParities();
+        asManyAsThereCanBe();
         unstopped();
         breaks();
         breakAheadOfHigh();
@@ -129,6 +130,27 @@ public final class ReceivedTest {
         x.disturb(16, 16);
         CHECKS.received(x, 0, 1, 6, 0, 0, 170);
         CHECKS.received(x, 1, 0, 3, 176, 0, 346);
+        ThirdVotes y = new ThirdVotes();
+        y.set(2, 2);
+        y.send(7);
+        y.send(3);
+        CHECKS.received(y, 0, 0, 7, 0, 0, 170);
+        CHECKS.received(y, 1, 0, 3, 176, 0, 346);
+    }
+
+    private static void asManyAsThereCanBe() {
+        ThirdVotes x = withReceiver(4);
+        for (int rank = 0; rank < 38; rank++) {
+            x.sendBreak(36);
+            x.pause(3);
+        }
+        x.sendBreak(18);
+        CHECKS.due("total(7)", x.total(7), 39);
+        CHECKS.due("total(8)", x.total(8), 39);
+        CHECKS.received(x, 37, 0, 0, 1443, 0, 1481);
+        // The low ticks from 1482 to 1499 are the start, three bits, and one look for the fourth one.
+        CHECKS.received(x, 38, 0, 248, 1482, 1, 1520);
+        CHECKS.due("received(39, 0)", x.received(39, 0), -5);
     }
 
     private static void unstopped() {
@@ -194,6 +216,16 @@ public final class ReceivedTest {
         CHECKS.due("received(0, 0)", x.received(0, 0), 2);
         CHECKS.due("received(0, 4)", x.received(0, 4), 48);
         CHECKS.due("received(1, 2)", x.received(1, 2), 49);
+        ThirdVotes y = withReceiver(5);
+        y.sendBreak(48);
+        y.pause(1);
+        y.sendBreak(1);
+        y.pause(9);
+        CHECKS.due("received(0, 0)", y.received(0, 0), 3);
+        CHECKS.due("total(12)", y.total(12), 0);
+        y.disturb(5, 5);
+        CHECKS.due("received(0, 0)", y.received(0, 0), 2);
+        CHECKS.due("total(12)", y.total(12), 1);
     }
 
     private static void falseStarts() {
