@@ -226,6 +226,13 @@ public final class ReceivedTest {
         y.disturb(5, 5);
         CHECKS.due("received(0, 0)", y.received(0, 0), 2);
         CHECKS.due("total(12)", y.total(12), 1);
+        // The level 1 right behind the last look of a break is enough.
+        ThirdVotes z = withReceiver(5);
+        z.sendBreak(49);
+        z.pause(1);
+        z.sendBreak(5);
+        CHECKS.received(z, 0, 3, 0, 0, 0, 48);
+        CHECKS.received(z, 1, 0, 255, 50, 0, 98);
     }
 
     private static void falseStarts() {
