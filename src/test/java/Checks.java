@@ -2,6 +2,7 @@
 final class Checks {
 
     private final String test;
+    private String about = "";
     private int made;
     private int wrong;
 
@@ -9,11 +10,16 @@ final class Checks {
         this.test = test;
     }
 
+    /** Tells what the checks that follow are about; it is printed with those that fail. */
+    void about(String what) {
+        about = " [" + what + "]";
+    }
+
     void due(String call, int got, int want) {
         made++;
         if (got != want) {
             wrong++;
-            System.out.println(test + ": " + call + " answered " + got + ", due is " + want);
+            System.out.println(test + ": " + call + " answered " + got + ", due is " + want + about);
         }
     }
 
@@ -21,7 +27,15 @@ final class Checks {
         made++;
         if (!isSo) {
             wrong++;
-            System.out.println(test + ": it does not hold that " + what);
+            System.out.println(test + ": it does not hold that " + what + about);
+        }
+    }
+
+    void same(String what, String got, String want) {
+        made++;
+        if (!got.equals(want)) {
+            wrong++;
+            System.out.println(test + ": " + what + " are " + got + ", due are " + want + about);
         }
     }
 
@@ -31,11 +45,7 @@ final class Checks {
         for (int tick = from; tick < from + want.length(); tick++) {
             got.append(x.level(tick));
         }
-        made++;
-        if (!got.toString().equals(want)) {
-            wrong++;
-            System.out.println(test + ": the levels from " + from + " on are " + got + ", due are " + want);
-        }
+        same("the levels from " + from + " on", got.toString(), want);
     }
 
     /** Something received, with all that the document notes of it. */
@@ -43,6 +53,33 @@ final class Checks {
         int[] want = {kind, word, begin, doubtful, lastLook};
         for (int what = 0; what < want.length; what++) {
             due("received(" + rank + ", " + what + ")", x.received(rank, what), want[what]);
+        }
+    }
+
+    /** A new object with some settings, told as pairs of a setting and its value. */
+    static ThirdVotes with(int... settings) {
+        ThirdVotes x = new ThirdVotes();
+        for (int index = 0; index + 1 < settings.length; index += 2) {
+            x.set(settings[index], settings[index + 1]);
+        }
+        return x;
+    }
+
+    /** Puts levels, told as a text of 0 and 1, onto the wire: a run of up to 500 alike takes one call. */
+    static void put(ThirdVotes x, String levels) {
+        int from = 0;
+        while (from < levels.length()) {
+            char level = levels.charAt(from);
+            int behind = from;
+            while (behind < levels.length() && behind < from + 500 && levels.charAt(behind) == level) {
+                behind++;
+            }
+            if (level == '0') {
+                x.sendBreak(behind - from);
+            } else {
+                x.pause(behind - from);
+            }
+            from = behind;
         }
     }
 
@@ -56,8 +93,8 @@ final class Checks {
 
     /** Fills the wire with pauses up to an end. */
     static void pauseUpTo(ThirdVotes x, int end) {
-        while (x.total(5) < end) {
-            x.pause(Math.min(500, end - x.total(5)));
+        for (int at = x.total(5); at < end; at += 500) {
+            x.pause(Math.min(500, end - at));
         }
     }
 

@@ -26,20 +26,7 @@ public final class ReceivedTest {
     }
 
     private static ThirdVotes withReceiver(int length) {
-        ThirdVotes x = new ThirdVotes();
-        x.set(1, length);
-        return x;
-    }
-
-    /** Puts levels, told as a text of 0 and 1, onto the wire. */
-    private static void put(ThirdVotes x, String levels) {
-        for (int index = 0; index < levels.length(); index++) {
-            if (levels.charAt(index) == '0') {
-                x.sendBreak(1);
-            } else {
-                x.pause(1);
-            }
-        }
+        return Checks.with(1, length);
     }
 
     private static void level() {
@@ -62,7 +49,7 @@ public final class ReceivedTest {
 
     private static void fall() {
         ThirdVotes x = new ThirdVotes();
-        put(x, "0010110001");
+        Checks.put(x, "0010110001");
         int[] falls = {0, 3, 6, -5};
         for (int rank = 0; rank < falls.length; rank++) {
             CHECKS.due("fall(" + rank + ")", x.fall(rank), falls[rank]);
@@ -238,7 +225,7 @@ public final class ReceivedTest {
     private static void falseStarts() {
         ThirdVotes x = withReceiver(6);
         // The looks for the bit 0 are at 2, 3 and 4: the fall at the last one is no begin.
-        put(x, "00110");
+        Checks.put(x, "00110");
         CHECKS.due("total(12)", x.total(12), 1);
         x.disturb(2, 1);
         CHECKS.due("total(12)", x.total(12), 0);
@@ -250,7 +237,7 @@ public final class ReceivedTest {
         CHECKS.due("total(14)", x.total(14), 1);
         ThirdVotes y = withReceiver(6);
         // Falls at 0, 2 and 5: that at 2 is looked over, that at 5 is right behind the third look.
-        put(y, "0101101");
+        Checks.put(y, "0101101");
         CHECKS.due("total(12)", y.total(12), 2);
         y.pause(1);
         y.sendBreak(6);
@@ -312,7 +299,7 @@ public final class ReceivedTest {
         // A false start is over behind its third look, also with one vote.
         ThirdVotes y = withReceiver(6);
         y.set(4, 1);
-        put(y, "00011000001");
+        Checks.put(y, "00011000001");
         CHECKS.due("total(12)", y.total(12), 1);
         CHECKS.due("received(0, 2)", y.received(0, 2), 5);
     }
@@ -421,10 +408,9 @@ public final class ReceivedTest {
         x.disturb(88 + 40, 4);
         x.disturb(5, 1);
         x.keep();
-        int[] totals = {64, 4, 1, 1, 0, 206, 3, 4, 1, 1, 1, 1, 1, 1, 0, 0, 0, 0, 4, 3};
-        totals[16] = lowTicks(x);
-        totals[15] = falls(x);
-        totals[17] = x.fall(4) == -5 ? -5 : (x.fall(4) - x.fall(0) + 4) / 8;
+        int lowTicks = (4 + 1 + 20) + 36 + (4 + 32) + 50 + 1;
+        // The falls are at 0, 5, 16, 44, 88, 100, 136 and 196.
+        int[] totals = {64, 4, 1, 1, 0, 206, 3, 4, 1, 1, 1, 1, 1, 1, 0, 8, lowTicks, (88 + 4) / 8, 4, 3};
         for (int what = 0; what < totals.length; what++) {
             CHECKS.due("total(" + what + ")", x.total(what), totals[what]);
         }
@@ -432,23 +418,6 @@ public final class ReceivedTest {
         for (int what : wrong) {
             CHECKS.due("total(" + what + ")", x.total(what), -2);
         }
-    }
-
-    private static int lowTicks(ThirdVotes x) {
-        int lowTicks = 0;
-        for (int tick = 0; tick < x.total(5); tick++) {
-            lowTicks += 1 - x.level(tick);
-        }
-        return lowTicks;
-    }
-
-    private static int falls(ThirdVotes x) {
-        int falls = 0;
-        for (int tick = 0; tick < x.total(5); tick++) {
-            boolean isHighAhead = tick == 0 || x.level(tick - 1) == 1;
-            falls += isHighAhead ? 1 - x.level(tick) : 0;
-        }
-        return falls;
     }
 
     private static void allIsWell() {

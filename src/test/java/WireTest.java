@@ -23,10 +23,7 @@ public final class WireTest {
     }
 
     private static ThirdVotes withLengths(int sender, int receiver) {
-        ThirdVotes x = new ThirdVotes();
-        x.set(0, sender);
-        x.set(1, receiver);
-        return x;
+        return Checks.with(0, sender, 1, receiver);
     }
 
     private static void sendWithWholeLengths() {
