@@ -178,7 +178,7 @@ final class HistorySentences {
         x.keep();
         String before = Story.ofState(x);
         checks.due("clear()", x.clear(), 50);
-        x.set(2, 2);
+        x.send(7);
         Checks.write(x, ".12");
         checks.due("undo()", x.undo(), 3);
         checks.due("undo()", x.undo(), 2);

@@ -251,6 +251,11 @@ final class LookPromises {
         checks.due("total(13)", falseStart.total(13), 0);
         checks.due("total(7)", falseStart.total(7), 0);
         checks.due("total(14)", falseStart.total(14), 1);
+        falseStart.pause(9);
+        falseStart.send(1);
+        checks.due("total(13) with a word behind it", falseStart.total(13), 0);
+        falseStart.disturb(17 + 21, 1);
+        checks.due("total(13) with a doubtful word behind it", falseStart.total(13), 1);
         // All of the wire is low.
         ThirdVotes full = wire(16, low(500) + low(500) + low(500));
         int[][] ofFull = {{5, 1500}, {6, 0}, {7, 1}, {8, 0}, {11, 1}, {14, 0}, {15, 1}, {16, 1500}, {17, -5}, {18, 3}};

@@ -1,45 +1,48 @@
 import java.lang.management.ManagementFactory;
 
-/** What objects and calls take of the room: all rows are made by the constructor, none by a call. */
+/** What the longest runs of calls take of the room: 600,000 objects and arrays, 7.3 million fields and elements. */
 public final class RoomTest {
 
     private static final com.sun.management.ThreadMXBean THREADS =
             (com.sun.management.ThreadMXBean) ManagementFactory.getThreadMXBean();
-    private static final int ROUNDS = 20;
-    private static final long MOST_BYTES_OF_AN_OBJECT = 8_000;
-    /** Less than one object a call. */
-    private static final long MOST_BYTES_OF_THE_CALLS = 4_000;
+    private static final int CALLS = 500;
+    /** What takes more cannot keep to the room, whatever it makes: no element has more bytes, and no head. */
+    private static final long MOST_BYTES = 7_300_000L * 8 + 600_000L * 16;
 
     private static int answers;
 
     public static void main(String[] args) {
         Checks checks = new Checks("RoomTest");
-        calls(new ThirdVotes());
-        long start = allocated();
-        ThirdVotes x = new ThirdVotes();
-        long made = allocated();
-        calls(x);
-        long called = allocated();
-        checks.holds("an object is small, it took " + (made - start) + " bytes",
-                made - start <= MOST_BYTES_OF_AN_OBJECT);
-        checks.holds("calls make nothing, they took " + (called - made) + " bytes",
-                called - made <= MOST_BYTES_OF_THE_CALLS);
+        room(checks, "harm", CALLS, x -> x.harm(1));
+        room(checks, "goodLength", CALLS, x -> x.goodLength(true));
+        room(checks, "ifSent", CALLS, x -> x.ifSent(85));
+        room(checks, "received", CALLS, x -> x.received(9, 4));
+        room(checks, "total", CALLS, x -> x.total(14));
+        room(checks, "perform and undo", CALLS / 2, x -> x.perform() + x.undo());
+        room(checks, "keep and restore", CALLS / 2, x -> x.keep() + x.restore());
+        room(checks, "disturb", CALLS, x -> x.disturb(7, 40));
         checks.holds("the calls were made", answers != 0);
         checks.close();
     }
 
-    private static long allocated() {
-        return THREADS.getThreadAllocatedBytes(Thread.currentThread().getId());
+    private static void room(Checks checks, String name, int calls, Call call) {
+        longRun(calls, call);
+        long before = THREADS.getThreadAllocatedBytes(Thread.currentThread().getId());
+        longRun(calls, call);
+        long bytes = THREADS.getThreadAllocatedBytes(Thread.currentThread().getId()) - before;
+        checks.holds("a run of " + name + " keeps to the room, it took " + bytes + " bytes",
+                bytes <= MOST_BYTES);
     }
 
-    /** Each method, some often; 501 calls in all. */
-    private static void calls(ThirdVotes x) {
-        for (int round = 0; round < ROUNDS; round++) {
-            answers += x.send(85) + x.pause(30) + x.sendBreak(3) + x.disturb(5, 3) + x.set(1, 16 + round % 2);
-            answers += x.learn() + x.type('2') + x.type('(') + x.type('.') + x.type('1') + x.type(')') + x.perform();
-            answers += x.clearText() + x.undo() + x.keep() + x.restore() + x.level(7) + x.fall(2) + x.sent(0);
-            answers += x.received(0, 1) + x.total(14) + x.ifLength(17, 0) + x.harm(1) + x.ifSent(85);
-            answers += x.goodLength(round == 0) + (round == 9 ? x.clear() : 0);
+    /** A wire with eight words on it, with room for another one, and a call again and again. */
+    private static void longRun(int calls, Call call) {
+        ThirdVotes x = new ThirdVotes();
+        Checks.write(x, "85");
+        for (int word = 0; word < 8; word++) {
+            x.send(85);
+        }
+        for (int made = 0; made < calls; made++) {
+            answers += call.on(x);
         }
     }
 }

@@ -202,6 +202,8 @@ final class TextSentences {
         fault("2(x", 2);
         fault("2(01x)", 4);
         fault("2(01)x", 5);
+        fault("2(01)),", 5);
+        fault("01)x", 2);
         // Any other character is none that is allowed.
         for (char wrong : new char[] {0, 1, 10, ' ', 127, 128, 255, 256, 0x130, 0x660, 0xff10, 0xffff}) {
             fault(String.valueOf(wrong), 0);
