@@ -431,11 +431,16 @@ public final class ThirdVotes {
 
         /** The first fall from a tick on, or the end. */
         int nextFall(int from) {
-            for (int tick = Math.max(from, 0); tick < end; tick = behindRow(tick)) {
-                long falls = fallsIn(tick / TICKS_PER_ROW) >>> tick % TICKS_PER_ROW;
+            int first = Math.max(from, 0);
+            int firstRow = first / TICKS_PER_ROW;
+            for (int row = firstRow; row < ROWS; row++) {
+                long falls = fallsIn(row);
+                if (row == firstRow) {
+                    falls &= -1L << first % TICKS_PER_ROW;
+                }
                 if (falls != 0) {
                     long lowestFall = falls & -falls;
-                    return tick + Long.bitCount(lowestFall - 1);
+                    return row * TICKS_PER_ROW + Long.bitCount(lowestFall - 1);
                 }
             }
             return end;
@@ -500,10 +505,6 @@ public final class ThirdVotes {
             }
         }
 
-        private static int behindRow(int tick) {
-            return (tick / TICKS_PER_ROW + 1) * TICKS_PER_ROW;
-        }
-
         /** The falls in a row, as bits that are 1. */
         private long fallsIn(int row) {
             if (row < 0 || row >= ROWS) {
@@ -546,9 +547,8 @@ public final class ThirdVotes {
             count = 0;
             falseStarts = 0;
             int begin = state.nextFall(0);
-            while (begin < state.end()) {
-                int waitsFrom = tellFrom(state, begin, length);
-                begin = state.nextFall(Math.max(waitsFrom, begin + 1));
+            for (int begins = 0; begins < GREATEST_END && begin < state.end(); begins++) {
+                begin = state.nextFall(tellFrom(state, begin, length));
             }
         }
 
