@@ -699,6 +699,7 @@ public final class ThirdVotes {
         private final int[] repeatFrom;
         private final int[] repeatsLeft;
         private int length;
+        private int openRepeats;
 
         Text() {
             characters = new char[MOST_CHARACTERS];
@@ -746,33 +747,54 @@ public final class ThirdVotes {
 
         /** Sends the program of a text without a fault, and answers whether there was room. */
         boolean sendTo(State state) {
-            int depth = 0;
+            openRepeats = 0;
             int index = 0;
-            for (int step = 0; step < MOST_STEPS && index < length; step++) {
+            for (int step = 0; step < MOST_STEPS && index >= 0 && index < length; step++) {
                 char character = characterAt(index);
                 if (character == ',') {
                     index++;
                 } else if (character == ')') {
-                    if (isRepeatDue(depth - 1)) {
-                        index = repeatFrom[depth - 1];
-                    } else {
-                        depth--;
-                        index++;
-                    }
+                    index = endRepeat(index);
                 } else if (characterAt(index + 1) == '(') {
-                    index += 2;
-                    if (!beginRepeat(depth, index, digit(character))) {
-                        return false;
-                    }
-                    depth++;
+                    index = beginRepeat(index + 2, digit(character));
                 } else {
-                    if (!sendItem(state, index)) {
-                        return false;
-                    }
-                    index += widthOfItem(index);
+                    index = sendItem(index, state);
                 }
             }
             return index >= length;
+        }
+
+        /** The index behind an item that was sent, or NONE without room. */
+        private int sendItem(int index, State state) {
+            char first = characterAt(index);
+            boolean hadRoom = isStretch(first)
+                    ? state.addStretch(first == '.' ? HIGH : LOW, numberAt(index + 1))
+                    : state.addWord(digit(first) * 16 + digit(characterAt(index + 1)));
+            return hadRoom ? index + widthOfItem(index) : NONE;
+        }
+
+        /** Answers, as endRepeat does, the index where the sending goes on. */
+        private int beginRepeat(int from, int times) {
+            if (openRepeats < 0 || openRepeats >= MOST_DEPTH) {
+                return NONE;
+            }
+            repeatFrom[openRepeats] = from;
+            repeatsLeft[openRepeats] = times;
+            openRepeats++;
+            return from;
+        }
+
+        private int endRepeat(int index) {
+            int ending = openRepeats - 1;
+            if (ending < 0 || ending >= MOST_DEPTH) {
+                return NONE;
+            }
+            repeatsLeft[ending]--;
+            if (repeatsLeft[ending] > 0) {
+                return repeatFrom[ending];
+            }
+            openRepeats = ending;
+            return index + 1;
         }
 
         private char characterAt(int index) {
@@ -816,32 +838,6 @@ public final class ThirdVotes {
                 return ITEM;
             }
             return character == ')' && depth > 0 ? BEHIND_ITEM : NOTHING;
-        }
-
-        /** Counts a repeat that is over, and answers whether another one is due. */
-        private boolean isRepeatDue(int depth) {
-            if (depth < 0 || depth >= MOST_DEPTH) {
-                return false;
-            }
-            repeatsLeft[depth]--;
-            return repeatsLeft[depth] > 0;
-        }
-
-        private boolean beginRepeat(int depth, int from, int times) {
-            if (depth < 0 || depth >= MOST_DEPTH) {
-                return false;
-            }
-            repeatFrom[depth] = from;
-            repeatsLeft[depth] = times;
-            return true;
-        }
-
-        private boolean sendItem(State state, int index) {
-            char first = characterAt(index);
-            if (isStretch(first)) {
-                return state.addStretch(first == '.' ? HIGH : LOW, numberAt(index + 1));
-            }
-            return state.addWord(digit(first) * 16 + digit(characterAt(index + 1)));
         }
 
         private int widthOfItem(int index) {
@@ -899,7 +895,7 @@ public final class ThirdVotes {
         }
 
         void remember(State state) {
-            if (size == MOST_STATES) {
+            if (size >= MOST_STATES) {
                 dropOldest();
             }
             states[size].copyFrom(state);
@@ -908,7 +904,7 @@ public final class ThirdVotes {
 
         /** Answers whether there was a state to bring back. */
         boolean takeBack(State state) {
-            if (size < 1) {
+            if (size < 1 || size > MOST_STATES) {
                 return false;
             }
             size--;
