@@ -423,6 +423,13 @@ final class ChangePromises {
         checks.due("perform() of more than that", typeAndPerform(new ThirdVotes(), "5(5(3(4(5(.1))))),.1"), -3);
         checks.due("perform() of far more", typeAndPerform(new ThirdVotes(), "9(".repeat(19) + ".1" + ")".repeat(19)), -3);
         checks.due("perform() of a faulty text on a full wire", typeAndPerform(paused(1500), "00,"), -103);
+        // What was too long, and stopped within repeats, leaves nothing behind for the next text.
+        ThirdVotes again = new ThirdVotes();
+        Checks.write(again, "9(".repeat(19) + ".1" + ")".repeat(19));
+        for (int time = 0; time < 4; time++) {
+            checks.due("perform() of far more, again", again.perform(), -3);
+        }
+        checks.due("perform() of a repeat behind it", typeAndPerform(again, "2(.3,2(_4))"), 22);
         ThirdVotes z = paused(1450);
         checks.due("perform()", typeAndPerform(z, "_50,.1"), -3);
         checks.due("total(16)", z.total(16), 0);
